@@ -161,6 +161,12 @@ public final class PromiseTest {
         CrowdFaces x = new CrowdFaces();
         x.append(230);
         Check.same("a character above 127", x.errorPosition(), 0);
+        write(x, "Fe000g0");
+        write(x, "Fe0");
+        Check.same("a longer text before does not matter", x.errorPosition(), 3);
+        write(x, "Fx000");
+        write(x, "Fs0100");
+        Check.same("a longer text before does not matter", x.errorPosition(), 6);
     }
 
     private static void load() {
@@ -194,6 +200,38 @@ public final class PromiseTest {
         extraIs("loaded", x, 0, 4, 13);
         extraIs("loaded", x, 1, 2, 9);
         sceneIs("loaded", x, 0, 2, 6, 9, 3, 240);
+        loadLeavesNothing();
+        CrowdFaces fed = loaded("Fe000s0100240s0110120s0120100g0g1mg2");
+        extraIs("a meal in a text", fed, 0, 0, 0, 460, 100, 3, 0, 80);
+    }
+
+    private static void loadLeavesNothing() {
+        CrowdFaces x = loaded("Fe201e201s2100240s2110240s2110240s2100240g0g1g2n");
+        x.shoot(3);
+        x.set(0, 300);
+        x.set(1, 20);
+        x.set(2, 30);
+        abouts("before", x, 2, 4, 4, 1, 160, 20, 4, 0, 1);
+        x.set(0, 960);
+        CrowdFaces fresh = new CrowdFaces();
+        write(x, "F");
+        write(fresh, "F");
+        Check.same("load of an empty film leaves none out", x.load(), 0);
+        Check.same("as a new object", Looks.of(x), Looks.of(fresh));
+        for (CrowdFaces each : new CrowdFaces[] {x, fresh}) {
+            each.extra(1, 1);
+            each.scene(1, 1, 0, 0, 100);
+            each.scene(1, 2, 0, 0, 100);
+        }
+        Check.same("extras and scenes as in a new object", Looks.of(x), Looks.of(fresh));
+        CrowdFaces worn = alone(240, 240, 240);
+        worn.shoot(0);
+        worn.shoot(1);
+        worn.nextDay();
+        abouts("worn", worn, 1, 3, 2, 1, 80, 20, 4, 0, 1);
+        write(worn, "F");
+        worn.load();
+        abouts("load", worn, 0, 0, 0, 0, 0, 0, 0, 0, 0);
     }
 
     private static void about() {
@@ -732,7 +770,8 @@ public final class PromiseTest {
             Check.same("group " + group, x.runScript(1, group), CrowdFaces.NONE);
         }
         int[] fails = {10000, 12001, 12010, 12100, 13000, 19000, 20001, 20010, 20100, 21000, 30001, 30010, 30100,
-            31000, 40001, 40020, 40040, 40990, 42000, 43000, 49000, 50239, 50961, 51000, 51100, 52100, 53050, 59050,
+            31000, 40001, 40020, 40040, 40320, 40330, 40990, 42000, 43000, 49000,
+            50239, 50961, 51000, 51100, 52100, 53050, 59050,
             60001, 60020, 61010, 60040, 60320, 60330, 60990, 62000, 63000, 69000, 70000, 70002, 70009, 70011, 70201,
             70400, 71400, 79900, 80003, 80104, 81004, 90000, 90101, 91001, 0, 9999, 1};
         for (int group : fails) {
@@ -741,12 +780,20 @@ public final class PromiseTest {
         Check.same("replaced by the lowest: extra 2", x.runScript(2, 4000060020L), CrowdFaces.NONE);
         Check.same("and not by extra 3", x.runScript(2, 4000060030L), 1);
         Check.same("in place of extra 1, the lowest is 3", x.runScript(2, 4001060030L), CrowdFaces.NONE);
+        Check.same("the lowest may be extra 0", x.runScript(3, 400004002060000L), CrowdFaces.NONE);
         Check.same("who was replaced is out", x.runScript(2, 4000060000L), 1);
         Check.same("a day begins", x.runScript(2, 3000070000L), CrowdFaces.NONE);
         Check.same("a meal ends no day's work", x.runScript(2, 2000070001L), CrowdFaces.NONE);
-        Check.same("a setting counts", x.runScript(3, 502403000070001L), 2);
+        Check.same("a setting counts", alreadyWorked().runScript(2, 5047911000L), 1);
+        Check.same("a setting counts", alreadyWorked().runScript(2, 5048011000L), CrowdFaces.NONE);
         // Extra 3 has not worked, and plays scene 2 in ten minutes.
         Check.same("penalties then", x.runScript(2, 1200080004L), CrowdFaces.NONE);
+    }
+
+    private static CrowdFaces alreadyWorked() {
+        CrowdFaces x = alone(240, 240);
+        x.shoot(0);
+        return x;
     }
 
     private static void simulate() {
@@ -777,6 +824,19 @@ public final class PromiseTest {
         Check.same("only the penalties in the turns", z.simulate(0L, 1), 10001);
         z.set(0, 489);
         Check.same("what cannot be done is left out", z.simulate(0L, 1), 0);
+        Check.same("the fourth turn sets the day to 379 minutes", longDay(139).simulate(0L, 5), 10001);
+        Check.same("a minute too many", longDay(140).simulate(0L, 5), 0);
+    }
+
+    private static CrowdFaces longDay(int minutes) {
+        CrowdFaces x = new CrowdFaces();
+        x.extra(1, 0);
+        for (int s = 0; s < 6; s++) {
+            x.scene(1, 1, s, 0, s == 5 ? minutes : 240);
+        }
+        x.shoot(0);
+        x.set(0, 240);
+        return x;
     }
 
     private static void save() {
