@@ -4,7 +4,7 @@ import java.util.Random;
 
 /** Long runs of calls, with fixed seeds: CrowdFaces answers as Model does, call by call. */
 public final class ModelTest {
-    private static final int RUNS = 1500;
+    private static final int RUNS = 600;
     private static final int CALLS = 512;
 
     private final Random random;
