@@ -1,13 +1,28 @@
+import java.util.function.IntFunction;
+
 /** Counts the answers that are not due; a test's main method ends with finish. */
 final class Check {
+    static final Class<IllegalArgumentException> ARGUMENT = IllegalArgumentException.class;
+    static final Class<IllegalStateException> STATE = IllegalStateException.class;
+    static final Class<IndexOutOfBoundsException> INDEX = IndexOutOfBoundsException.class;
+    static final int NONE = -1;
+
+    private static final int MOST_TOLD = 30;
+
     private static int checked = 0;
     private static int wrong = 0;
+    private static String sentence = "";
 
     interface Call {
         int run();
     }
 
     private Check() {
+    }
+
+    /** The sentence of the document that the answers from here on are due to. */
+    static void sentence(String told) {
+        sentence = told;
     }
 
     static void same(String name, long got, long due) {
@@ -24,12 +39,53 @@ final class Check {
         }
     }
 
-    /** The call throws exactly this exception, and nothing that can be seen of the object changes. */
-    static void refuses(String name, CrowdFaces x, Class<? extends RuntimeException> due, Call call) {
-        String before = Looks.of(x);
-        String got = answer(call);
-        same(name, got, due.getSimpleName());
-        same(name + " changes nothing", Looks.of(x), before);
+    /** The call throws exactly this exception, and nothing that can be told of the subject changes. */
+    static void refuses(String name, Subject x, Class<? extends RuntimeException> due, Subject.Step step) {
+        same(name, answer(() -> x.ask(step)), due.getSimpleName());
+        same(name + " changes nothing", Looks.all(x, o -> tried(o, step)), x.looks());
+    }
+
+    /** The call answers so, and nothing that can be told of the subject changes. */
+    static void leaves(String name, Subject x, int due, Subject.Step step) {
+        same(name, answer(() -> x.ask(step)), Integer.toString(due));
+        same(name + " changes nothing", Looks.all(x, step), x.looks());
+    }
+
+    /** The call is an action: one state more is remembered, and undo takes back just this call. */
+    static void acts(String name, Subject x, Subject.Step step) {
+        int before = remembered(x);
+        same(name + ": states remembered", remembered(x, step), before + 1);
+        same(name + ", then undo", answer(x.again(step), o -> o.undo()), Integer.toString(before));
+        same(name + ", then undo, leaves all as it was", Looks.all(x, step, o -> o.undo()), x.looks());
+    }
+
+    /** How often undo answers. */
+    static int remembered(Subject x, Subject.Step... behind) {
+        CrowdFaces made = x.again(behind);
+        int count = 0;
+        while (count < 100 && !answer(made, o -> o.undo()).endsWith("Exception")) {
+            count++;
+        }
+        return count;
+    }
+
+    /** Numbers at the bounds and next to them: those in range answer, the others are refused. */
+    static void range(String name, Subject x, Class<? extends RuntimeException> due, int least, int most,
+            IntFunction<Subject.Step> call) {
+        for (int v : new int[] {least, least + 1, most - 1, most}) {
+            if (v >= least && v <= most) {
+                String answer = answer(x.again(), call.apply(v));
+                same(name + " takes " + v, answer.endsWith("Exception") ? answer : "an answer", "an answer");
+            }
+        }
+        for (int v : new int[] {least - 1, most + 1, Integer.MIN_VALUE, Integer.MAX_VALUE, wrapped(least), wrapped(most)}) {
+            refuses(name + " with " + v, x, due, call.apply(v));
+        }
+    }
+
+    /** Out of range, but the same number again in its lowest bits, by which a shift or a narrow type would take it. */
+    private static int wrapped(int v) {
+        return v + 65536;
     }
 
     static String answer(Call call) {
@@ -40,9 +96,21 @@ final class Check {
         }
     }
 
+    static String answer(CrowdFaces made, Subject.Step step) {
+        return answer(() -> step.on(made));
+    }
+
+    private static int tried(CrowdFaces made, Subject.Step step) {
+        return answer(made, step).length();
+    }
+
     static void tell(String what) {
         wrong++;
-        if (wrong <= 50) {
+        if (wrong <= MOST_TOLD) {
+            if (!sentence.isEmpty()) {
+                System.out.println("\"" + sentence + "\"");
+                sentence = "";
+            }
             System.out.println(what);
         }
     }

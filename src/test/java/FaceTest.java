@@ -97,9 +97,6 @@ public final class FaceTest {
         }
         for (Class<?> inside : face.getDeclaredClasses()) {
             Check.same(inside + " is not public", inside.getModifiers() & (Modifier.PUBLIC | Modifier.PROTECTED), 0);
-            for (Method m : inside.getDeclaredMethods()) {
-                Check.same(m + " has a public name", names.contains(m.getName()) ? 1 : 0, 0);
-            }
         }
     }
 

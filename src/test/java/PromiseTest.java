@@ -1,8 +1,8 @@
 /** Each promise of the document with answers worked out by hand: ordinary inputs, edges, wrong inputs. */
 public final class PromiseTest {
-    private static final Class<IllegalArgumentException> ARGUMENT = IllegalArgumentException.class;
-    private static final Class<IllegalStateException> STATE = IllegalStateException.class;
-    private static final Class<IndexOutOfBoundsException> INDEX = IndexOutOfBoundsException.class;
+    private static final Class<IllegalArgumentException> ARGUMENT = Check.ARGUMENT;
+    private static final Class<IllegalStateException> STATE = Check.STATE;
+    private static final Class<IndexOutOfBoundsException> INDEX = Check.INDEX;
     private static final int[] FAR = {Integer.MIN_VALUE, Integer.MAX_VALUE};
 
     private PromiseTest() {
@@ -42,97 +42,73 @@ public final class PromiseTest {
 
     // ---- helpers
 
-    private static void write(CrowdFaces x, String text) {
-        x.clearText();
-        for (int k = 0; k < text.length(); k++) {
-            x.append(text.charAt(k));
-        }
-    }
-
-    private static CrowdFaces loaded(String text) {
-        CrowdFaces x = new CrowdFaces();
-        write(x, text);
-        x.load();
-        return x;
-    }
-
     private static int error(String text) {
-        CrowdFaces x = new CrowdFaces();
-        write(x, text);
+        Subject x = new Subject();
+        x.write(text);
         return x.errorPosition();
     }
 
-    private static void abouts(String name, CrowdFaces x, int... due) {
+    private static void abouts(String name, Subject x, int... due) {
         for (int what = 0; what < due.length; what++) {
             Check.same(name + ": about(" + what + ")", x.about(what), due[what]);
         }
     }
 
-    private static void extraIs(String name, CrowdFaces x, int e, int... due) {
+    private static void extraIs(String name, Subject x, int e, int... due) {
         for (int what = 0; what < due.length; what++) {
             Check.same(name + ": extraOf(" + e + ", " + what + ")", x.extraOf(e, what), due[what]);
         }
     }
 
-    private static void sceneIs(String name, CrowdFaces x, int s, int... due) {
+    private static void sceneIs(String name, Subject x, int s, int... due) {
         for (int what = 0; what < due.length; what++) {
             Check.same(name + ": sceneOf(" + s + ", " + what + ")", x.sceneOf(s, what), due[what]);
         }
     }
 
-    private static void wouldBe(String name, CrowdFaces x, int s, int... due) {
+    private static void wouldBe(String name, Subject x, int s, int... due) {
         for (int what = 0; what < due.length; what++) {
             Check.same(name + ": would(" + s + ", " + what + ")", x.would(s, what), due[what]);
         }
     }
 
-    /** One extra, and so many scenes for it alone, each on its own story day. */
-    private static CrowdFaces alone(int... minutes) {
-        CrowdFaces x = new CrowdFaces();
-        x.extra(0, 0);
-        for (int k = 0; k < minutes.length; k++) {
-            x.scene(0, 1, k, 0, minutes[k]);
-        }
-        return x;
-    }
-
     // ---- the promises, in their order
 
     private static void newObject() {
-        CrowdFaces x = new CrowdFaces();
+        Subject x = new Subject();
         abouts("new", x, 0, 0, 0, 0, 0, 0, 0, 0, 0);
         Check.same("new: setting(0)", x.setting(0), 600);
         Check.same("new: setting(1)", x.setting(1), 10);
         Check.same("new: setting(2)", x.setting(2), 5);
         Check.same("new: errorPosition", x.errorPosition(), 0);
         Check.same("new: cheapest", x.cheapest(), CrowdFaces.NONE);
-        Check.refuses("new: undo", x, STATE, () -> x.undo());
-        Check.refuses("new: restore", x, STATE, () -> x.restore(0));
+        Check.refuses("new: undo", x, STATE, o -> o.undo());
+        Check.refuses("new: restore", x, STATE, o -> o.restore(0));
         Check.same("new: the text is empty", x.clearText(), 0);
         x.extra(0, 0);
-        Check.same("new objects share nothing", new CrowdFaces().about(0), 0);
+        Check.same("new objects share nothing", new Subject().about(0), 0);
     }
 
     private static void append() {
-        CrowdFaces x = new CrowdFaces();
+        Subject x = new Subject();
         Check.same("append(0)", x.append(0), 1);
         Check.same("append(255)", x.append(255), 2);
         for (int wrong : new int[] {-1, 256, FAR[0], FAR[1]}) {
-            Check.refuses("append(" + wrong + ")", x, ARGUMENT, () -> x.append(wrong));
+            Check.refuses("append(" + wrong + ")", x, ARGUMENT, o -> o.append(wrong));
         }
         for (int k = 3; k <= 120; k++) {
             Check.same("append", x.append('F'), k);
         }
-        Check.refuses("append to a full text", x, STATE, () -> x.append('F'));
-        Check.refuses("append of a wrong one to a full text", x, ARGUMENT, () -> x.append(256));
+        Check.refuses("append to a full text", x, STATE, o -> o.append('F'));
+        Check.refuses("append of a wrong one to a full text", x, ARGUMENT, o -> o.append(256));
         Check.same("a full text's length", x.clearText(), 120);
-        Check.refuses("append is no action", x, STATE, () -> x.undo());
+        Check.refuses("append is no action", x, STATE, o -> o.undo());
     }
 
     private static void clearText() {
-        CrowdFaces x = new CrowdFaces();
+        Subject x = new Subject();
         Check.same("clearText of none", x.clearText(), 0);
-        write(x, "Fmn");
+        x.write("Fmn");
         Check.same("clearText", x.clearText(), 3);
         Check.same("clearText again", x.clearText(), 0);
         Check.same("append behind clearText", x.append('m'), 1);
@@ -158,95 +134,95 @@ public final class PromiseTest {
         for (String text : begun) {
             Check.same("begun " + text, error(text), text.length());
         }
-        CrowdFaces x = new CrowdFaces();
+        Subject x = new Subject();
         x.append(230);
         Check.same("a character above 127", x.errorPosition(), 0);
-        write(x, "Fe000g0");
-        write(x, "Fe0");
+        x.write("Fe000g0");
+        x.write("Fe0");
         Check.same("a longer text before does not matter", x.errorPosition(), 3);
-        write(x, "Fx000");
-        write(x, "Fs0100");
+        x.write("Fx000");
+        x.write("Fs0100");
         Check.same("a longer text before does not matter", x.errorPosition(), 6);
     }
 
     private static void load() {
-        CrowdFaces x = new CrowdFaces();
+        Subject x = new Subject();
         x.extra(4, 4);
         x.set(0, 700);
         x.save(0);
         x.save(1);
-        Check.refuses("load of no text", x, STATE, () -> x.load());
-        write(x, "Fe");
-        Check.refuses("load of a text that ends too soon", x, STATE, () -> x.load());
+        Check.refuses("load of no text", x, STATE, o -> o.load());
+        x.write("Fe");
+        Check.refuses("load of a text that ends too soon", x, STATE, o -> o.load());
         Check.same("which forgets no action", x.undo(), 1);
         Check.same("and no slot", x.restore(0), 0);
         x.extra(1, 1);
-        write(x, "Fe000e001s0100061g0g1g0s0310010g1nm");
+        x.write("Fe000e001s0100061g0g1g0s0310010g1nm");
         Check.same("load: three shoots are left out", x.load(), 3);
         abouts("loaded", x, 2, 2, 1, 1, 20, 0, 0, 0, 2);
         Check.same("load sets the settings back", x.setting(0), 600);
-        Check.refuses("nothing is remembered behind load", x, STATE, () -> x.undo());
-        Check.refuses("slot 0 is empty behind load", x, STATE, () -> x.restore(0));
-        Check.refuses("slot 1 is empty behind load", x, STATE, () -> x.restore(1));
+        Check.refuses("nothing is remembered behind load", x, STATE, o -> o.undo());
+        Check.refuses("slot 0 is empty behind load", x, STATE, o -> o.restore(0));
+        Check.refuses("slot 1 is empty behind load", x, STATE, o -> o.restore(1));
         Check.same("load keeps the text", x.clearText(), 35);
-        write(x, "Fe000e000e000e000e000e000e000e000e000e000e000e000e000e000e000e000mn");
+        x.write("Fe000e000e000e000e000e000e000e000e000e000e000e000e000e000e000e000mn");
         Check.same("the 15th and 16th extra are left out", x.load(), 2);
         Check.same("14 are there", x.about(0), 14);
-        write(x, "Fs0100010s0100010s0100010s0100010s0100010s0100010s0100010s0100010s0100010s0100010s0100010s4693240");
+        x.write("Fs0100010s0100010s0100010s0100010s0100010s0100010s0100010s0100010s0100010s0100010s0100010s4693240");
         Check.same("the 11th and 12th scene are left out", x.load(), 2);
         abouts("loaded scenes", x, 0, 10);
-        write(x, "Fe413e209s2693240");
+        x.write("Fe413e209s2693240");
         Check.same("load of all its numbers", x.load(), 0);
         extraIs("loaded", x, 0, 4, 13);
         extraIs("loaded", x, 1, 2, 9);
         sceneIs("loaded", x, 0, 2, 6, 9, 3, 240);
         loadLeavesNothing();
-        CrowdFaces fed = loaded("Fe000s0100240s0110120s0120100g0g1mg2");
+        Subject fed = Subject.loaded("Fe000s0100240s0110120s0120100g0g1mg2");
         extraIs("a meal in a text", fed, 0, 0, 0, 460, 100, 3, 0, 80);
     }
 
     private static void loadLeavesNothing() {
-        CrowdFaces x = loaded("Fe201e201s2100240s2110240s2110240s2100240g0g1g2n");
+        Subject x = Subject.loaded("Fe201e201s2100240s2110240s2110240s2100240g0g1g2n");
         x.shoot(3);
         x.set(0, 300);
         x.set(1, 20);
         x.set(2, 30);
         abouts("before", x, 2, 4, 4, 1, 160, 20, 4, 0, 1);
         x.set(0, 960);
-        CrowdFaces fresh = new CrowdFaces();
-        write(x, "F");
-        write(fresh, "F");
+        Subject fresh = new Subject();
+        x.write("F");
+        fresh.write("F");
         Check.same("load of an empty film leaves none out", x.load(), 0);
         Check.same("as a new object", Looks.of(x), Looks.of(fresh));
-        for (CrowdFaces each : new CrowdFaces[] {x, fresh}) {
+        for (Subject each : new Subject[] {x, fresh}) {
             each.extra(1, 1);
             each.scene(1, 1, 0, 0, 100);
             each.scene(1, 2, 0, 0, 100);
         }
         Check.same("extras and scenes as in a new object", Looks.of(x), Looks.of(fresh));
-        CrowdFaces worn = alone(240, 240, 240);
+        Subject worn = Subject.alone(240, 240, 240);
         worn.shoot(0);
         worn.shoot(1);
         worn.nextDay();
         abouts("worn", worn, 1, 3, 2, 1, 80, 20, 4, 0, 1);
-        write(worn, "F");
+        worn.write("F");
         worn.load();
         abouts("load", worn, 0, 0, 0, 0, 0, 0, 0, 0, 0);
     }
 
     private static void about() {
-        CrowdFaces x = loaded("Fe000e001e001e000s0200200s0200200g0g1ns0100061s0100010g2");
+        Subject x = Subject.loaded("Fe000e001e001e000s0200200s0200200g0g1ns0100061s0100010g2");
         // Extras 0 and 1 work 200 + 200 minutes: two penalties each; then extra 0 works a begun second hour.
         abouts("about", x, 4, 4, 3, 1, 2 * 40 + 2 * 40 + 20, 4 * 5, 4, 1, 2);
         for (int wrong : new int[] {-1, 9, FAR[0], FAR[1]}) {
-            Check.refuses("about(" + wrong + ")", x, ARGUMENT, () -> x.about(wrong));
+            Check.refuses("about(" + wrong + ")", x, ARGUMENT, o -> o.about(wrong));
         }
         x.meal();
         Check.same("meals count no day", x.about(3), 1);
     }
 
     private static void extraOf() {
-        CrowdFaces x = loaded("Fe000e201e000s0100240s0101240g0g1e000s0120010");
+        Subject x = Subject.loaded("Fe000e201e000s0100240s0101240g0g1e000s0120010");
         // Extra 0 plays scene 0; its face is barred at another place of that day, so scene 1 isn't shot.
         extraIs("extraOf", x, 0, 0, 0, 240, 240, 1, 0b1100, 40);
         extraIs("extraOf", x, 1, 2, 1, 0, 0, 0, 0, 0);
@@ -257,20 +233,20 @@ public final class PromiseTest {
         extraIs("replaced", x, 0, 0, 0, 240, 0, 0, 0b1100, 40);
         extraIs("in its place", x, 2, 0, 0, 0, 0, 1, 0b1001, 0);
         for (int wrong : new int[] {-1, 7, FAR[0], FAR[1]}) {
-            Check.refuses("extraOf(0, " + wrong + ")", x, ARGUMENT, () -> x.extraOf(0, wrong));
+            Check.refuses("extraOf(0, " + wrong + ")", x, ARGUMENT, o -> o.extraOf(0, wrong));
         }
         for (int wrong : new int[] {-1, 4, 14, FAR[0], FAR[1]}) {
-            Check.refuses("extraOf(" + wrong + ", 0)", x, INDEX, () -> x.extraOf(wrong, 0));
-            Check.refuses("extraOf(" + wrong + ", 7)", x, INDEX, () -> x.extraOf(wrong, 7));
+            Check.refuses("extraOf(" + wrong + ", 0)", x, INDEX, o -> o.extraOf(wrong, 0));
+            Check.refuses("extraOf(" + wrong + ", 7)", x, INDEX, o -> o.extraOf(wrong, 7));
         }
-        CrowdFaces y = alone(240, 240);
+        Subject y = Subject.alone(240, 240);
         y.shoot(0);
         y.shoot(1);
         extraIs("earned with penalties", y, 0, 0, 0, 480, 480, 2, 0, 40 + 40 + 4 * 5);
     }
 
     private static void sceneOf() {
-        CrowdFaces x = loaded("Fe000e001e002s0110060s0210060s0120060s0100060s4693240");
+        Subject x = Subject.loaded("Fe000e001e002s0110060s0210060s0120060s0100060s4693240");
         sceneIs("sceneOf", x, 4, 4, 6, 9, 3, 240, 0, 0, 0, 0);
         sceneIs("not shot", x, 0, 0, 1, 1, 0, 60, 0, 0, 0, 0);
         x.shoot(0);
@@ -289,16 +265,16 @@ public final class PromiseTest {
         sceneIs("barred by two places", x, 6, 3, 1, 1, 3, 10, 0, 0, 0, 0b10000000000011);
         sceneIs("barred of a shot scene", x, 0, 0, 1, 1, 0, 60, 1, 0b001, 0b011, 0b10000000000000);
         for (int wrong : new int[] {-1, 9, FAR[0], FAR[1]}) {
-            Check.refuses("sceneOf(0, " + wrong + ")", x, ARGUMENT, () -> x.sceneOf(0, wrong));
+            Check.refuses("sceneOf(0, " + wrong + ")", x, ARGUMENT, o -> o.sceneOf(0, wrong));
         }
         for (int wrong : new int[] {-1, 7, 10, FAR[0], FAR[1]}) {
-            Check.refuses("sceneOf(" + wrong + ", 0)", x, INDEX, () -> x.sceneOf(wrong, 0));
-            Check.refuses("sceneOf(" + wrong + ", 9)", x, INDEX, () -> x.sceneOf(wrong, 9));
+            Check.refuses("sceneOf(" + wrong + ", 0)", x, INDEX, o -> o.sceneOf(wrong, 0));
+            Check.refuses("sceneOf(" + wrong + ", 9)", x, INDEX, o -> o.sceneOf(wrong, 9));
         }
     }
 
     private static void setting() {
-        CrowdFaces x = new CrowdFaces();
+        Subject x = new Subject();
         x.set(0, 961 - 1);
         x.set(1, 98);
         x.set(2, 97);
@@ -306,23 +282,23 @@ public final class PromiseTest {
         Check.same("setting(1)", x.setting(1), 98);
         Check.same("setting(2)", x.setting(2), 97);
         for (int wrong : new int[] {-1, 3, FAR[0], FAR[1]}) {
-            Check.refuses("setting(" + wrong + ")", x, ARGUMENT, () -> x.setting(wrong));
+            Check.refuses("setting(" + wrong + ")", x, ARGUMENT, o -> o.setting(wrong));
         }
     }
 
     private static void extra() {
-        CrowdFaces x = new CrowdFaces();
+        Subject x = new Subject();
         int[][] wrong = {{-1, 0}, {5, 0}, {0, -1}, {0, 14}, {FAR[0], 0}, {FAR[1], 0}, {0, FAR[0]}, {0, FAR[1]}};
         for (int[] w : wrong) {
-            Check.refuses("extra(" + w[0] + ", " + w[1] + ")", x, ARGUMENT, () -> x.extra(w[0], w[1]));
+            Check.refuses("extra(" + w[0] + ", " + w[1] + ")", x, ARGUMENT, o -> o.extra(w[0], w[1]));
         }
         for (int e = 0; e < 14; e++) {
             Check.same("extra", x.extra(e % 5, 13 - e), e);
             extraIs("extra", x, e, e % 5, 13 - e, 0, 0, 0, 0, 0);
         }
         Check.same("14 faces", x.about(8), 14);
-        Check.refuses("the 15th extra", x, STATE, () -> x.extra(0, 0));
-        Check.refuses("a wrong 15th extra", x, ARGUMENT, () -> x.extra(5, 0));
+        Check.refuses("the 15th extra", x, STATE, o -> o.extra(0, 0));
+        Check.refuses("a wrong 15th extra", x, ARGUMENT, o -> o.extra(5, 0));
         Check.same("14 actions", x.undo(), 13);
         Check.same("the last one is gone", x.about(0), 13);
         Check.same("its number is taken again", x.extra(1, 1), 13);
@@ -330,48 +306,48 @@ public final class PromiseTest {
     }
 
     private static void scene() {
-        CrowdFaces x = new CrowdFaces();
+        Subject x = new Subject();
         int[][] wrong = {{-1, 1, 0, 0, 10}, {5, 1, 0, 0, 10}, {0, 0, 0, 0, 10}, {0, 7, 0, 0, 10}, {0, 1, -1, 0, 10},
             {0, 1, 10, 0, 10}, {0, 1, 0, -1, 10}, {0, 1, 0, 4, 10}, {0, 1, 0, 0, 9}, {0, 1, 0, 0, 241},
             {0, 1, 0, 0, FAR[0]}, {0, FAR[1], 0, 0, 10}};
         for (int[] w : wrong) {
-            Check.refuses("scene", x, ARGUMENT, () -> x.scene(w[0], w[1], w[2], w[3], w[4]));
+            Check.refuses("scene", x, ARGUMENT, o -> o.scene(w[0], w[1], w[2], w[3], w[4]));
         }
         for (int s = 0; s < 10; s++) {
             Check.same("scene", x.scene(s % 5, 1 + s % 6, s, s % 4, s == 9 ? 240 : 10 + s), s);
             sceneIs("scene", x, s, s % 5, 1 + s % 6, s, s % 4, s == 9 ? 240 : 10 + s, 0, 0, 0, 0);
         }
-        Check.refuses("the 11th scene", x, STATE, () -> x.scene(0, 1, 0, 0, 10));
-        Check.refuses("a wrong 11th scene", x, ARGUMENT, () -> x.scene(0, 7, 0, 0, 10));
+        Check.refuses("the 11th scene", x, STATE, o -> o.scene(0, 1, 0, 0, 10));
+        Check.refuses("a wrong 11th scene", x, ARGUMENT, o -> o.scene(0, 7, 0, 0, 10));
         Check.same("ten actions", x.undo(), 9);
         Check.same("the last one is gone", x.about(1), 9);
     }
 
     private static void shoot() {
-        CrowdFaces x = loaded("Fe003e001e001e000e102e004s0210060s0310060s0111061s1110060s0610060");
+        Subject x = Subject.loaded("Fe003e001e001e000e102e004s0210060s0310060s0111061s1110060s0610060");
         Check.same("the lowest first, one of a face", x.shoot(0), 0b000011);
         abouts("shot", x, 6, 5, 1, 0, 20, 0, 0, 0, 5);
         extraIs("shot", x, 0, 0, 3, 60, 60, 1, 0, 10);
-        Check.refuses("shoot again", x, STATE, () -> x.shoot(0));
+        Check.refuses("shoot again", x, STATE, o -> o.shoot(0));
         Check.same("the known faces first, then who has worked least", x.shoot(1), 0b001011);
         Check.same("who was seen here is not elsewhere", x.shoot(2), 0b100000);
         extraIs("two begun hours", x, 5, 0, 4, 61, 61, 1, 0, 20);
         Check.same("another look: three breaks", x.shoot(3), 0b010000);
         Check.same("the breaks", x.about(7), 3);
-        Check.refuses("too few", x, STATE, () -> x.shoot(4));
+        Check.refuses("too few", x, STATE, o -> o.shoot(4));
         for (int wrong : new int[] {-1, 5, 10, FAR[0], FAR[1]}) {
-            Check.refuses("shoot(" + wrong + ")", x, INDEX, () -> x.shoot(wrong));
+            Check.refuses("shoot(" + wrong + ")", x, INDEX, o -> o.shoot(wrong));
         }
         knownFaceIsTheLowestFree();
-        CrowdFaces day = alone(240, 240, 121, 120);
+        Subject day = Subject.alone(240, 240, 121, 120);
         day.shoot(0);
         day.shoot(1);
-        Check.refuses("a minute too many", day, STATE, () -> day.shoot(2));
+        Check.refuses("a minute too many", day, STATE, o -> o.shoot(2));
         Check.same("up to the bound itself", day.shoot(3), 1);
     }
 
     private static void knownFaceIsTheLowestFree() {
-        CrowdFaces x = new CrowdFaces();
+        Subject x = new Subject();
         x.extra(0, 5);
         x.extra(0, 2);
         x.extra(0, 5);
@@ -383,8 +359,8 @@ public final class PromiseTest {
         Check.same("both faces", x.shoot(0), 0b0011);
         Check.same("by numbers of faces, of a face the lowest who is free", x.shoot(1), 0b1000);
         Check.same("one break", x.about(7), 1);
-        Check.refuses("one known face is free, and no other face", x, STATE, () -> x.shoot(2));
-        CrowdFaces least = new CrowdFaces();
+        Check.refuses("one known face is free, and no other face", x, STATE, o -> o.shoot(2));
+        Subject least = new Subject();
         for (int face = 0; face < 4; face++) {
             least.extra(0, face);
         }
@@ -397,7 +373,7 @@ public final class PromiseTest {
     }
 
     private static void penalties() {
-        CrowdFaces x = alone(240, 120, 10, 20, 10, 240, 10);
+        Subject x = Subject.alone(240, 120, 10, 20, 10, 240, 10);
         x.set(0, 960);
         x.shoot(0);
         x.shoot(1);
@@ -419,21 +395,21 @@ public final class PromiseTest {
     }
 
     private static void replace() {
-        CrowdFaces x = loaded("Fe000e001e000e001e102e003s0210060s0111060g0g1s0110060");
+        Subject x = Subject.loaded("Fe000e001e000e001e102e003s0210060s0111060g0g1s0110060");
         // Scene 0 has extras 0 and 1, scene 1, elsewhere on that day, has extra 5.
         Check.same("crowd", x.sceneOf(0, 6), 0b000011);
         Check.same("crowd", x.sceneOf(1, 6), 0b100000);
-        Check.refuses("not shot", x, STATE, () -> x.replace(2, 0, 2));
-        Check.refuses("a is not in the crowd", x, STATE, () -> x.replace(0, 2, 3));
-        Check.refuses("b is in the crowd", x, STATE, () -> x.replace(0, 0, 1));
-        Check.refuses("a is b", x, STATE, () -> x.replace(0, 0, 0));
-        Check.refuses("another look", x, STATE, () -> x.replace(0, 0, 4));
-        Check.refuses("the face of the other one", x, STATE, () -> x.replace(0, 0, 3));
-        Check.refuses("a barred face", x, STATE, () -> x.replace(0, 0, 5));
+        Check.refuses("not shot", x, STATE, o -> o.replace(2, 0, 2));
+        Check.refuses("a is not in the crowd", x, STATE, o -> o.replace(0, 2, 3));
+        Check.refuses("b is in the crowd", x, STATE, o -> o.replace(0, 0, 1));
+        Check.refuses("a is b", x, STATE, o -> o.replace(0, 0, 0));
+        Check.refuses("another look", x, STATE, o -> o.replace(0, 0, 4));
+        Check.refuses("the face of the other one", x, STATE, o -> o.replace(0, 0, 3));
+        Check.refuses("a barred face", x, STATE, o -> o.replace(0, 0, 5));
         int[][] wrong = {{3, 0, 2}, {-1, 0, 2}, {0, -1, 2}, {0, 6, 2}, {0, 0, -1}, {0, 0, 6}, {2, 0, 14},
             {FAR[0], 0, 2}, {0, FAR[1], 2}, {0, 0, FAR[0]}};
         for (int[] w : wrong) {
-            Check.refuses("replace", x, INDEX, () -> x.replace(w[0], w[1], w[2]));
+            Check.refuses("replace", x, INDEX, o -> o.replace(w[0], w[1], w[2]));
         }
         x.set(0, 240);
         Check.same("the same face", x.replace(0, 0, 2), 0b000110);
@@ -446,7 +422,7 @@ public final class PromiseTest {
         Check.same("known faces follow", x.sceneOf(2, 7), 0b10000010);
         Check.same("barred faces follow", x.sceneOf(1, 8), 0b10000010);
         Check.same("its own face is free for it", x.replace(0, 1, 3), 0b1001000);
-        CrowdFaces full = alone(240, 240);
+        Subject full = Subject.alone(240, 240);
         full.shoot(0);
         full.extra(0, 1);
         full.shoot(1);
@@ -455,7 +431,7 @@ public final class PromiseTest {
     }
 
     private static void meal() {
-        CrowdFaces x = alone(240, 120, 10);
+        Subject x = Subject.alone(240, 120, 10);
         Check.same("a meal for none who is late", x.meal(), 0);
         x.shoot(0);
         x.shoot(1);
@@ -466,18 +442,18 @@ public final class PromiseTest {
         Check.same("370 minutes are", x.meal(), 1);
         Check.same("once", x.meal(), 0);
         Check.same("penalties so far stay", x.about(6), 1);
-        CrowdFaces two = loaded("Fe000e001s0200240s0210240s0220061g0g1");
+        Subject two = Subject.loaded("Fe000e001s0200240s0210240s0220061g0g1");
         Check.same("two were late", two.meal(), 2);
         two.shoot(2);
         Check.same("counted anew: none at 61 minutes", two.about(6), 8);
     }
 
     private static void nextDay() {
-        CrowdFaces x = alone(240, 240, 240, 130);
+        Subject x = Subject.alone(240, 240, 240, 130);
         Check.same("nextDay", x.nextDay(), 1);
         x.shoot(0);
         x.shoot(1);
-        Check.refuses("the day is too long", x, STATE, () -> x.shoot(2));
+        Check.refuses("the day is too long", x, STATE, o -> o.shoot(2));
         Check.same("nextDay again", x.nextDay(), 2);
         extraIs("a new day", x, 0, 0, 0, 0, 0, 2, 0, 80 + 20);
         abouts("a new day", x, 1, 4, 2, 2, 80, 20, 4, 0, 1);
@@ -487,11 +463,11 @@ public final class PromiseTest {
     }
 
     private static void set() {
-        CrowdFaces x = new CrowdFaces();
+        Subject x = new Subject();
         int[][] wrong = {{-1, 50}, {3, 50}, {0, 239}, {0, 961}, {1, 0}, {1, 100}, {2, -1}, {2, 100},
             {FAR[0], 0}, {FAR[1], 0}, {0, FAR[0]}, {0, FAR[1]}};
         for (int[] w : wrong) {
-            Check.refuses("set(" + w[0] + ", " + w[1] + ")", x, ARGUMENT, () -> x.set(w[0], w[1]));
+            Check.refuses("set(" + w[0] + ", " + w[1] + ")", x, ARGUMENT, o -> o.set(w[0], w[1]));
         }
         int[][] right = {{0, 240, 600}, {0, 960, 240}, {1, 1, 10}, {1, 99, 1}, {2, 0, 5}, {2, 99, 0}, {2, 99, 99}};
         for (int[] r : right) {
@@ -499,20 +475,20 @@ public final class PromiseTest {
             Check.same("then setting", x.setting(r[0]), r[1]);
         }
         Check.same("each was an action", x.undo(), 6);
-        CrowdFaces paid = alone(240, 240, 240);
+        Subject paid = Subject.alone(240, 240, 240);
         paid.set(1, 3);
         paid.shoot(0);
         paid.set(2, 11);
         paid.shoot(1);
         abouts("wages and penalties as set", paid, 1, 3, 2, 0, 24, 44, 4, 0, 1);
         paid.set(0, 719);
-        Check.refuses("the day as set", paid, STATE, () -> paid.shoot(2));
+        Check.refuses("the day as set", paid, STATE, o -> o.shoot(2));
         paid.set(0, 720);
         Check.same("the day as set", paid.shoot(2), 1);
     }
 
     private static void undo() {
-        CrowdFaces x = new CrowdFaces();
+        Subject x = new Subject();
         for (int k = 0; k < 16; k++) {
             x.set(1, 20 + k);
         }
@@ -520,8 +496,8 @@ public final class PromiseTest {
             Check.same("undo", x.undo(), k);
             Check.same("the wage then", x.setting(1), 21 + k);
         }
-        Check.refuses("14 are remembered", x, STATE, () -> x.undo());
-        CrowdFaces y = loaded("Fe000e001e000s0200240s0220240s0110240");
+        Check.refuses("14 are remembered", x, STATE, o -> o.undo());
+        Subject y = Subject.loaded("Fe000e001e000s0200240s0220240s0110240");
         String[] looks = new String[10];
         Check.Call[] actions = {() -> y.shoot(0), () -> y.shoot(1), () -> y.meal(), () -> y.replace(0, 0, 2),
             () -> y.extra(3, 3), () -> y.scene(0, 1, 0, 0, 10), () -> y.nextDay(), () -> y.nextDay(),
@@ -530,7 +506,7 @@ public final class PromiseTest {
             looks[k] = Looks.of(y);
             actions[k].run();
         }
-        write(y, "Fm");
+        y.write("Fm");
         y.save(1);
         for (int k = actions.length - 1; k >= 0; k--) {
             Check.same("undo of action " + k, y.undo(), k);
@@ -538,11 +514,11 @@ public final class PromiseTest {
         }
         Check.same("undo leaves the text", y.clearText(), 2);
         Check.same("undo leaves the slots", y.restore(1), 2);
-        Check.refuses("undo is no action", y, STATE, () -> y.undo());
+        Check.refuses("undo is no action", y, STATE, o -> o.undo());
     }
 
     private static void would() {
-        CrowdFaces x = loaded("Fe000e001e102s0100240s0100120s1100061s0300010g0");
+        Subject x = Subject.loaded("Fe000e001e102s0100240s0100120s1100061s0300010g0");
         wouldBe("shot", x, 0, -1, -1, -1, -1);
         wouldBe("too few", x, 3, -1, -1, -1, -1);
         wouldBe("known", x, 1, 0b001, 20, 0, 0);
@@ -554,17 +530,17 @@ public final class PromiseTest {
         x.shoot(4);
         wouldBe("only those not counted yet", x, 1, 0b001, 20, 4 * 5, 0);
         for (int wrong : new int[] {-1, 4, FAR[0], FAR[1]}) {
-            Check.refuses("would(0, " + wrong + ")", x, ARGUMENT, () -> x.would(0, wrong));
+            Check.refuses("would(0, " + wrong + ")", x, ARGUMENT, o -> o.would(0, wrong));
         }
         for (int wrong : new int[] {-1, 6, 10, FAR[0], FAR[1]}) {
-            Check.refuses("would(" + wrong + ", 0)", x, INDEX, () -> x.would(wrong, 0));
-            Check.refuses("would(" + wrong + ", 4)", x, INDEX, () -> x.would(wrong, 4));
+            Check.refuses("would(" + wrong + ", 0)", x, INDEX, o -> o.would(wrong, 0));
+            Check.refuses("would(" + wrong + ", 4)", x, INDEX, o -> o.would(wrong, 4));
         }
         Check.same("would is no action", x.undo(), 2);
     }
 
     private static void why() {
-        CrowdFaces x = loaded("Fe000e001e101e001e002s0210060s0111060s0210120s1120060g0");
+        Subject x = Subject.loaded("Fe000e001e101e001e002s0210060s0111060s0210120s1120060g0");
         Check.same("crowd", x.sceneOf(0, 6), 0b00011);
         Check.same("look", x.why(0, 2), 1);
         Check.same("shot", x.why(0, 0), 4);
@@ -588,30 +564,30 @@ public final class PromiseTest {
         Check.same("no time comes before shot", loadedLongDay().why(0, 0), 2);
         int[][] wrong = {{-1, 0}, {7, 0}, {0, -1}, {0, 5}, {FAR[0], 0}, {0, FAR[1]}, {10, 14}};
         for (int[] w : wrong) {
-            Check.refuses("why(" + w[0] + ", " + w[1] + ")", x, INDEX, () -> x.why(w[0], w[1]));
+            Check.refuses("why(" + w[0] + ", " + w[1] + ")", x, INDEX, o -> o.why(w[0], w[1]));
         }
-        CrowdFaces none = loaded("Fe000s0100010s0110010s0200010g0");
-        Check.same("barred comes before cannot be shot", loaded("Fe000s0100010s0210010g0").why(1, 0), 4);
-        Check.same("barred comes before cannot be shot", loaded("Fe000s0100010s0201010g0").why(1, 0), 3);
+        Subject none = Subject.loaded("Fe000s0100010s0110010s0200010g0");
+        Check.same("barred comes before cannot be shot", Subject.loaded("Fe000s0100010s0210010g0").why(1, 0), 4);
+        Check.same("barred comes before cannot be shot", Subject.loaded("Fe000s0100010s0201010g0").why(1, 0), 3);
         Check.same("cannot be shot", none.why(2, 0), 4);
     }
 
-    private static CrowdFaces loadedLongDay() {
-        CrowdFaces x = alone(240, 240);
+    private static Subject loadedLongDay() {
+        Subject x = Subject.alone(240, 240);
         x.shoot(0);
         x.shoot(1);
         return x;
     }
 
     private static void cheapest() {
-        CrowdFaces x = loaded("Fe000e001s0200060s0110120s0120061s0400010s1130010");
+        Subject x = Subject.loaded("Fe000e001s0200060s0110120s0120061s0400010s1130010");
         Check.same("the lowest of three with 20", x.cheapest(), 0);
         x.shoot(0);
         Check.same("the lowest of two", x.cheapest(), 1);
         x.shoot(1);
         x.shoot(2);
         Check.same("none can be shot", x.cheapest(), CrowdFaces.NONE);
-        CrowdFaces y = alone(240, 121, 60, 120);
+        Subject y = Subject.alone(240, 121, 60, 120);
         y.shoot(0);
         Check.same("the least wages", y.cheapest(), 2);
         y.shoot(2);
@@ -629,11 +605,11 @@ public final class PromiseTest {
         Check.same("a scene that may be dear by penalties", y.would(4, 2), 0);
         Check.same("two who had no work are dearer than one", y.cheapest(), 4);
         penaltiesMakeDear();
-        Check.same("no scenes", new CrowdFaces().cheapest(), CrowdFaces.NONE);
+        Check.same("no scenes", new Subject().cheapest(), CrowdFaces.NONE);
     }
 
     private static void penaltiesMakeDear() {
-        CrowdFaces x = loaded("Fe000e101s0100240s0100120s0100010s1100180g0g1");
+        Subject x = Subject.loaded("Fe000e101s0100240s0100120s0100010s1100180g0g1");
         Check.same("one hour and a penalty of 5", x.would(2, 1) + x.would(2, 2), 15);
         Check.same("cheaper than three hours", x.cheapest(), 2);
         x.set(2, 20);
@@ -643,7 +619,7 @@ public final class PromiseTest {
     }
 
     private static void lacks() {
-        CrowdFaces x = loaded("Fe000e001e001e102s0200240s0400060s0600010s2600010s0201010");
+        Subject x = Subject.loaded("Fe000e001e001e102s0200240s0400060s0600010s2600010s0201010");
         Check.same("enough", x.lacks(0), 0);
         Check.same("two faces for four", x.lacks(1), 2);
         Check.same("two faces for six", x.lacks(2), 4);
@@ -658,17 +634,17 @@ public final class PromiseTest {
         x.extra(0, 9);
         Check.same("one who is free", x.lacks(0), 0);
         for (int wrong : new int[] {-1, 5, 10, FAR[0], FAR[1]}) {
-            Check.refuses("lacks(" + wrong + ")", x, INDEX, () -> x.lacks(wrong));
+            Check.refuses("lacks(" + wrong + ")", x, INDEX, o -> o.lacks(wrong));
         }
     }
 
     private static void order() {
-        CrowdFaces x = alone(240, 120, 121);
+        Subject x = Subject.alone(240, 120, 121);
         Check.same("the same cost", x.order(0, 1), 2);
-        Check.refuses("a scene and itself", x, ARGUMENT, () -> x.order(1, 1));
+        Check.refuses("a scene and itself", x, ARGUMENT, o -> o.order(1, 1));
         int[][] wrong = {{-1, 0}, {0, -1}, {3, 0}, {0, 3}, {3, 3}, {FAR[0], 0}, {0, FAR[1]}};
         for (int[] w : wrong) {
-            Check.refuses("order(" + w[0] + ", " + w[1] + ")", x, INDEX, () -> x.order(w[0], w[1]));
+            Check.refuses("order(" + w[0] + ", " + w[1] + ")", x, INDEX, o -> o.order(w[0], w[1]));
         }
         x.set(0, 360);
         Check.same("at the bound of the day", x.order(0, 1), 2);
@@ -682,7 +658,7 @@ public final class PromiseTest {
 
     /** Whoever is taken first is seen again, and only one of the twins waits for a meal. */
     private static void twinsInOrder() {
-        CrowdFaces x = new CrowdFaces();
+        Subject x = new Subject();
         x.extra(0, 0);
         x.extra(1, 1);
         x.extra(0, 1);
@@ -713,7 +689,7 @@ public final class PromiseTest {
 
     /** In one order the second scene finds its only extra barred; in the other, not. */
     private static void elsewhereInOrder() {
-        CrowdFaces x = new CrowdFaces();
+        Subject x = new Subject();
         x.extra(0, 0);
         x.extra(0, 1);
         x.scene(0, 1, 0, 0, 10);
@@ -721,7 +697,7 @@ public final class PromiseTest {
         x.scene(0, 2, 0, 1, 10);
         Check.same("one each", x.order(0, 1), 2);
         Check.same("both barred", x.order(0, 2), CrowdFaces.NONE);
-        CrowdFaces y = new CrowdFaces();
+        Subject y = new Subject();
         y.extra(0, 0);
         y.extra(1, 1);
         y.extra(0, 1);
@@ -737,7 +713,7 @@ public final class PromiseTest {
     }
 
     private static void runScript() {
-        CrowdFaces x = loaded("Fe000e001e000s0200240s0100240s0101010g0");
+        Subject x = Subject.loaded("Fe000e001e000s0200240s0100240s0101010g0");
         String before = Looks.of(x);
         Check.same("shoot, then one barred", x.runScript(2, 1100012000L), 1);
         Check.same("shoot a shot one", x.runScript(1, 10000L), 0);
@@ -750,19 +726,19 @@ public final class PromiseTest {
         Check.same("scripts change nothing", Looks.of(x), before);
         int[] counts = {0, 4, -1, FAR[0], FAR[1]};
         for (int n : counts) {
-            Check.refuses("runScript(" + n + ", ..)", x, ARGUMENT, () -> x.runScript(n, 20000L));
+            Check.refuses("runScript(" + n + ", ..)", x, ARGUMENT, o -> o.runScript(n, 20000L));
         }
-        Check.refuses("negative", x, ARGUMENT, () -> x.runScript(1, -1L));
-        Check.refuses("most negative", x, ARGUMENT, () -> x.runScript(3, Long.MIN_VALUE));
-        Check.refuses("six digits", x, ARGUMENT, () -> x.runScript(1, 100000L));
-        Check.refuses("eleven digits", x, ARGUMENT, () -> x.runScript(2, 10000000000L));
-        Check.refuses("sixteen digits", x, ARGUMENT, () -> x.runScript(3, 1000000000000000L));
-        Check.refuses("greatest", x, ARGUMENT, () -> x.runScript(3, Long.MAX_VALUE));
+        Check.refuses("negative", x, ARGUMENT, o -> o.runScript(1, -1L));
+        Check.refuses("most negative", x, ARGUMENT, o -> o.runScript(3, Long.MIN_VALUE));
+        Check.refuses("six digits", x, ARGUMENT, o -> o.runScript(1, 100000L));
+        Check.refuses("eleven digits", x, ARGUMENT, o -> o.runScript(2, 10000000000L));
+        Check.refuses("sixteen digits", x, ARGUMENT, o -> o.runScript(3, 1000000000000000L));
+        Check.refuses("greatest", x, ARGUMENT, o -> o.runScript(3, Long.MAX_VALUE));
     }
 
     private static void runScriptGroups() {
         // Scene 0: extras 0 and 1, four hours. Scene 1: extra 0 again, so extra 1's face is a break.
-        CrowdFaces x = loaded("Fe000e001e000s0200240s0100240s0101010g0g1e002");
+        Subject x = Subject.loaded("Fe000e001e000s0200240s0100240s0101010g0g1e002");
         abouts("before", x, 4, 3, 2, 0, 120, 20, 4, 1, 3);
         int[] fine = {12000, 20000, 30000, 40000, 41000, 40010, 50240, 50960, 51001, 51099, 52000, 52099, 60000,
             60010, 61000, 70001, 70101, 70200, 70300, 80004, 80099, 90001, 90099};
@@ -790,16 +766,16 @@ public final class PromiseTest {
         Check.same("penalties then", x.runScript(2, 1200080004L), CrowdFaces.NONE);
     }
 
-    private static CrowdFaces alreadyWorked() {
-        CrowdFaces x = alone(240, 240);
+    private static Subject alreadyWorked() {
+        Subject x = Subject.alone(240, 240);
         x.shoot(0);
         return x;
     }
 
     private static void simulate() {
-        CrowdFaces x = new CrowdFaces();
+        Subject x = new Subject();
         for (int wrong : new int[] {0, 61, -1, FAR[0], FAR[1]}) {
-            Check.refuses("simulate(1, " + wrong + ")", x, ARGUMENT, () -> x.simulate(1L, wrong));
+            Check.refuses("simulate(1, " + wrong + ")", x, ARGUMENT, o -> o.simulate(1L, wrong));
         }
         // Found by Model, with which ModelTest compares call by call.
         long[][] due = {{0, 59, 10000}, {1, 60, 70000}, {1, 59, 60000}, {-1, 20, 10000}, {-1, 59, 50000},
@@ -808,7 +784,7 @@ public final class PromiseTest {
         for (long[] d : due) {
             Check.same("simulate(" + d[0] + ", " + d[1] + ")", x.simulate(d[0], (int) d[1]), d[2]);
         }
-        CrowdFaces y = alone(240, 240, 240, 240);
+        Subject y = Subject.alone(240, 240, 240, 240);
         y.shoot(0);
         y.shoot(1);
         String before = Looks.of(y);
@@ -816,7 +792,7 @@ public final class PromiseTest {
         Check.same("simulate changes nothing", Looks.of(y), before);
         Check.same("simulate again", y.simulate(5L, 60), only);
         // The first turns of seed 0 are shoot(5), extra(0, 0), extra(0, 6), set(0, ..), shoot(5).
-        CrowdFaces z = alone(240, 240, 10, 10, 10, 10);
+        Subject z = Subject.alone(240, 240, 10, 10, 10, 10);
         Check.same("one turn", z.simulate(0L, 1), 10000);
         Check.same("five turns", z.simulate(0L, 5), 10000);
         z.shoot(0);
@@ -828,8 +804,8 @@ public final class PromiseTest {
         Check.same("a minute too many", longDay(140).simulate(0L, 5), 0);
     }
 
-    private static CrowdFaces longDay(int minutes) {
-        CrowdFaces x = new CrowdFaces();
+    private static Subject longDay(int minutes) {
+        Subject x = new Subject();
         x.extra(1, 0);
         for (int s = 0; s < 6; s++) {
             x.scene(1, 1, s, 0, s == 5 ? minutes : 240);
@@ -840,13 +816,13 @@ public final class PromiseTest {
     }
 
     private static void save() {
-        CrowdFaces x = alone(240, 240);
+        Subject x = Subject.alone(240, 240);
         Check.same("save of no shot scene", x.save(0), 0);
         x.shoot(0);
         Check.same("save", x.save(1), 1);
         Check.same("save again in the same", x.save(1), 1);
         for (int wrong : new int[] {-1, 2, FAR[0], FAR[1]}) {
-            Check.refuses("save(" + wrong + ")", x, INDEX, () -> x.save(wrong));
+            Check.refuses("save(" + wrong + ")", x, INDEX, o -> o.save(wrong));
         }
         Check.same("save is no action and forgets none", x.undo(), 3);
         Check.same("each slot its own", x.restore(1), 1);
@@ -854,34 +830,34 @@ public final class PromiseTest {
     }
 
     private static void restore() {
-        CrowdFaces x = alone(240, 240);
-        Check.refuses("restore of nothing", x, STATE, () -> x.restore(0));
-        Check.refuses("restore of nothing", x, STATE, () -> x.restore(1));
+        Subject x = Subject.alone(240, 240);
+        Check.refuses("restore of nothing", x, STATE, o -> o.restore(0));
+        Check.refuses("restore of nothing", x, STATE, o -> o.restore(1));
         for (int wrong : new int[] {-1, 2, FAR[0], FAR[1]}) {
-            Check.refuses("restore(" + wrong + ")", x, INDEX, () -> x.restore(wrong));
+            Check.refuses("restore(" + wrong + ")", x, INDEX, o -> o.restore(wrong));
         }
         x.shoot(0);
         x.save(0);
         String kept = Looks.of(x);
-        Check.refuses("restore of the other slot", x, STATE, () -> x.restore(1));
+        Check.refuses("restore of the other slot", x, STATE, o -> o.restore(1));
         x.shoot(1);
         x.set(1, 99);
         x.extra(4, 4);
         x.nextDay();
         Check.same("restore", x.restore(0), 1);
         Check.same("all as it was", Looks.of(x), kept);
-        Check.refuses("nothing is remembered", x, STATE, () -> x.undo());
+        Check.refuses("nothing is remembered", x, STATE, o -> o.undo());
         x.shoot(1);
         Check.same("one action since", x.undo(), 0);
         x.nextDay();
         Check.same("the slot keeps it", x.restore(0), 1);
         Check.same("all as it was", Looks.of(x), kept);
-        write(x, "Fmm");
+        x.write("Fmm");
         x.restore(0);
         Check.same("the text stays", x.clearText(), 3);
         x.clearText();
         x.append('F');
         x.load();
-        Check.refuses("load empties the slots", x, STATE, () -> x.restore(0));
+        Check.refuses("load empties the slots", x, STATE, o -> o.restore(0));
     }
 }
