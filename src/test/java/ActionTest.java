@@ -20,6 +20,7 @@ public final class ActionTest {
         oldestIsForgotten();
         undoneAndDoneAgain();
         statesStillRemembered();
+        noneIsRemembered();
         undoOfEachAction();
         refusedCallsRememberNothing();
         firstNamedException();
@@ -61,18 +62,6 @@ public final class ActionTest {
         x.meal();
         x.write("Fe00");
         return x;
-    }
-
-    private static void extraIs(Subject x, int e, int... due) {
-        for (int what = 0; what < due.length; what++) {
-            Check.same("extraOf(" + e + ", " + what + ")", x.extraOf(e, what), due[what]);
-        }
-    }
-
-    private static void abouts(Subject x, int... due) {
-        for (int what = 0; what < due.length; what++) {
-            Check.same("about(" + what + ")", x.about(what), due[what]);
-        }
     }
 
     // ---- actions and undo
@@ -234,6 +223,25 @@ public final class ActionTest {
         Check.same("the wage", x.setting(1), 2);
     }
 
+    private static void noneIsRemembered() {
+        Check.sentence("Throws IllegalStateException if none is remembered");
+        Check.refuses("a new film", new Subject(), STATE, o -> o.undo());
+        Check.refuses("a film that was loaded", film(), STATE, o -> o.undo());
+        Subject x = new Subject();
+        x.save(0);
+        x.append('F');
+        Check.refuses("no action so far", x, STATE, o -> o.undo());
+        x.meal();
+        x.undo();
+        Check.refuses("taken back", x, STATE, o -> o.undo());
+        x.meal();
+        x.restore(0);
+        Check.refuses("restored", x, STATE, o -> o.undo());
+        x.meal();
+        x.load();
+        Check.refuses("loaded", x, STATE, o -> o.undo());
+    }
+
     private static void statesStillRemembered() {
         Check.sentence("Returns how many states are still remembered.");
         Subject x = film();
@@ -357,7 +365,7 @@ public final class ActionTest {
         Check.range("the face", x, ARGUMENT, 0, 13, v -> o -> o.extra(4, v));
         Check.refuses("both wrong", x, ARGUMENT, o -> o.extra(-1, 14));
         Check.same("the sixth", x.extra(4, 13), 5);
-        extraIs(x, 5, 4, 13, 0, 0, 0, 0, 0);
+        Check.extraIs(x, 5, 4, 13, 0, 0, 0, 0, 0);
         Check.same("extras", x.about(0), 6);
         Check.same("faces", x.about(8), 5);
         Subject full = full();
@@ -419,7 +427,7 @@ public final class ActionTest {
             Check.same("shot", x.sceneOf(s, 5), 1);
             Check.same("would", x.would(s, 0), NONE);
         }
-        abouts(x, 5, 4, 4, 0, 2 * 40 + 40 + 2 * 30 + 20, 0, 0, 0, 4);
+        Check.abouts(x, 5, 4, 4, 0, 2 * 40 + 40 + 2 * 30 + 20, 0, 0, 0, 4);
     }
 
     // ---- replace
@@ -472,13 +480,13 @@ public final class ActionTest {
         x.shoot(1);
         x.shoot(2);
         x.shoot(3);
-        extraIs(x, 0, 0, 0, 361, 361, 2, 0, 40 + 30 + 5);
-        extraIs(x, 1, 0, 1, 480, 480, 2, 0, 80 + 20);
-        abouts(x, 2, 5, 4, 0, 150, 25, 5, 0, 2);
+        Check.extraIs(x, 0, 0, 0, 361, 361, 2, 0, 40 + 30 + 5);
+        Check.extraIs(x, 1, 0, 1, 480, 480, 2, 0, 80 + 20);
+        Check.abouts(x, 2, 5, 4, 0, 150, 25, 5, 0, 2);
         Check.same("replace", x.replace(1, 1, 0), 0b01);
-        extraIs(x, 0, 0, 0, 361, 361, 3, 0, 75);
-        extraIs(x, 1, 0, 1, 480, 480, 1, 0, 100);
-        abouts(x, 2, 5, 4, 0, 150, 25, 5, 0, 2);
+        Check.extraIs(x, 0, 0, 0, 361, 361, 3, 0, 75);
+        Check.extraIs(x, 1, 0, 1, 480, 480, 1, 0, 100);
+        Check.abouts(x, 2, 5, 4, 0, 150, 25, 5, 0, 2);
         Check.same("the crowd of the scene", x.sceneOf(1, 6), 0b01);
         Check.same("extra 0 is still the one with the fewest minutes", x.would(4, 0), 0b01);
         x.set(0, 480);
@@ -529,6 +537,14 @@ public final class ActionTest {
             Check.same("meal behind " + late, x.meal(), late);
         }
         Check.same("meal of none", new Subject().meal(), 0);
+        Subject very = Subject.loaded("Fe000e001e102s0200240s0200240s1110240g0g1g2");
+        Check.same("eight penalties", very.about(6), 8);
+        Check.same("of two of three", very.meal(), 2);
+        Subject free = Subject.alone(240, 121);
+        free.set(2, 0);
+        free.shoot(0);
+        free.shoot(1);
+        Check.same("late, though it costs nothing", free.meal(), 1);
         Subject day = Subject.alone(240, 240);
         day.shoot(0);
         day.shoot(1);
@@ -540,12 +556,12 @@ public final class ActionTest {
         Check.sentence("for all extras the minutes since the latest meal, and the penalties counted since then, "
                 + "become 0");
         Subject x = Subject.loaded("Fe000e101s0100240s0110240s1100240s1110010s0120100g0g1g2g3");
-        extraIs(x, 0, 0, 0, 480, 480);
-        extraIs(x, 1, 1, 1, 250, 250);
+        Check.extraIs(x, 0, 0, 0, 480, 480);
+        Check.extraIs(x, 1, 1, 1, 250, 250);
         x.meal();
-        extraIs(x, 0, 0, 0, 480, 0, 2, 0, 80 + 20);
-        extraIs(x, 1, 1, 1, 250, 0, 2, 0, 50);
-        abouts(x, 2, 5, 4, 0, 130, 20, 4, 2, 2);
+        Check.extraIs(x, 0, 0, 0, 480, 0, 2, 0, 80 + 20);
+        Check.extraIs(x, 1, 1, 1, 250, 0, 2, 0, 50);
+        Check.abouts(x, 2, 5, 4, 0, 130, 20, 4, 2, 2);
         x.shoot(4);
         Check.same("100 minutes behind the meal", x.about(6), 4);
         x.set(0, 960);
@@ -574,9 +590,9 @@ public final class ActionTest {
                 + "counted since then, become 0");
         Subject x = Subject.loaded("Fe000e101s0100240s0110240s1100240s0120240s0130121g0g1g2");
         x.nextDay();
-        extraIs(x, 0, 0, 0, 0, 0, 2, 0, 80 + 20);
-        extraIs(x, 1, 1, 1, 0, 0, 1, 0, 40);
-        abouts(x, 2, 5, 3, 1, 120, 20, 4, 1, 2);
+        Check.extraIs(x, 0, 0, 0, 0, 0, 2, 0, 80 + 20);
+        Check.extraIs(x, 1, 1, 1, 0, 0, 1, 0, 40);
+        Check.abouts(x, 2, 5, 3, 1, 120, 20, 4, 1, 2);
         Check.same("crowds stay", x.sceneOf(0, 6), 1);
         x.shoot(3);
         Check.same("361 minutes: counted anew", x.would(4, 2), 5);

@@ -39,30 +39,6 @@ public final class AnswerTest {
         Check.finish();
     }
 
-    private static void wouldBe(Subject x, int s, int... due) {
-        for (int what = 0; what < due.length; what++) {
-            Check.same("would(" + s + ", " + what + ")", x.would(s, what), due[what]);
-        }
-    }
-
-    private static void abouts(Subject x, int... due) {
-        for (int what = 0; what < due.length; what++) {
-            Check.same("about(" + what + ")", x.about(what), due[what]);
-        }
-    }
-
-    private static void extraIs(Subject x, int e, int... due) {
-        for (int what = 0; what < due.length; what++) {
-            Check.same("extraOf(" + e + ", " + what + ")", x.extraOf(e, what), due[what]);
-        }
-    }
-
-    private static void sceneIs(Subject x, int s, int... due) {
-        for (int what = 0; what < due.length; what++) {
-            Check.same("sceneOf(" + s + ", " + what + ")", x.sceneOf(s, what), due[what]);
-        }
-    }
-
     private static void whyIs(Subject x, int s, int... due) {
         for (int e = 0; e < due.length; e++) {
             Check.same("why(" + s + ", " + e + ")", x.why(s, e), due[e]);
@@ -82,33 +58,33 @@ public final class AnswerTest {
                 + "one); 4: the wages so far; 5: what penalties cost so far; 6: the penalties so far; 7: the breaks "
                 + "so far; 8: the faces that at least one extra has");
         Subject x = new Subject();
-        abouts(x, 0, 0, 0, 0, 0, 0, 0, 0, 0);
+        Check.abouts(x, 0, 0, 0, 0, 0, 0, 0, 0, 0);
         x.extra(0, 3);
-        abouts(x, 1, 0, 0, 0, 0, 0, 0, 0, 1);
+        Check.abouts(x, 1, 0, 0, 0, 0, 0, 0, 0, 1);
         x.scene(0, 1, 0, 0, 240);
-        abouts(x, 1, 1, 0, 0, 0, 0, 0, 0, 1);
+        Check.abouts(x, 1, 1, 0, 0, 0, 0, 0, 0, 1);
         x.shoot(0);
-        abouts(x, 1, 1, 1, 0, 40, 0, 0, 0, 1);
+        Check.abouts(x, 1, 1, 1, 0, 40, 0, 0, 0, 1);
         x.scene(0, 1, 1, 0, 151);
         x.shoot(1);
-        abouts(x, 1, 2, 2, 0, 70, 10, 2, 0, 1);
+        Check.abouts(x, 1, 2, 2, 0, 70, 10, 2, 0, 1);
         x.set(0, 960);
         x.set(2, 0);
         x.scene(0, 1, 2, 0, 30);
         x.shoot(2);
-        abouts(x, 1, 3, 3, 0, 80, 10, 3, 0, 1);
+        Check.abouts(x, 1, 3, 3, 0, 80, 10, 3, 0, 1);
         x.extra(1, 3);
-        abouts(x, 2, 3, 3, 0, 80, 10, 3, 0, 1);
+        Check.abouts(x, 2, 3, 3, 0, 80, 10, 3, 0, 1);
         x.extra(1, 4);
         x.replace(0, 0, x.extra(0, 5));
-        abouts(x, 4, 3, 3, 0, 80, 10, 3, 0, 3);
+        Check.abouts(x, 4, 3, 3, 0, 80, 10, 3, 0, 3);
         x.scene(1, 1, 0, 0, 60);
         x.shoot(3);
-        abouts(x, 4, 4, 4, 0, 90, 10, 3, 1, 3);
+        Check.abouts(x, 4, 4, 4, 0, 90, 10, 3, 1, 3);
         x.nextDay();
-        abouts(x, 4, 4, 4, 1, 90, 10, 3, 1, 3);
+        Check.abouts(x, 4, 4, 4, 1, 90, 10, 3, 1, 3);
         x.meal();
-        abouts(x, 4, 4, 4, 1, 90, 10, 3, 1, 3);
+        Check.abouts(x, 4, 4, 4, 1, 90, 10, 3, 1, 3);
     }
 
     private static void facesThatOneHas() {
@@ -142,30 +118,30 @@ public final class AnswerTest {
                 + "set; 6: what this extra earned so far (wages and penalties, also for crowds in which another one "
                 + "is now)");
         Subject x = Subject.loaded("Fe413e000e013e113e200s4190010s0100240s0100240");
-        extraIs(x, 0, 4, 13, 0, 0, 0, 0b01100, 0);
-        extraIs(x, 1, 0, 0, 0, 0, 0, 0b10000, 0);
-        extraIs(x, 2, 0, 13, 0, 0, 0, 0b01001, 0);
-        extraIs(x, 3, 1, 13, 0, 0, 0, 0b00101, 0);
-        extraIs(x, 4, 2, 0, 0, 0, 0, 0b00010, 0);
+        Check.extraIs(x, 0, 4, 13, 0, 0, 0, 0b01100, 0);
+        Check.extraIs(x, 1, 0, 0, 0, 0, 0, 0b10000, 0);
+        Check.extraIs(x, 2, 0, 13, 0, 0, 0, 0b01001, 0);
+        Check.extraIs(x, 3, 1, 13, 0, 0, 0, 0b00101, 0);
+        Check.extraIs(x, 4, 2, 0, 0, 0, 0, 0b00010, 0);
         x.shoot(1);
         x.shoot(2);
-        extraIs(x, 1, 0, 0, 480, 480, 2, 0b10000, 80 + 20);
+        Check.extraIs(x, 1, 0, 0, 480, 480, 2, 0b10000, 80 + 20);
         x.meal();
-        extraIs(x, 1, 0, 0, 480, 0, 2, 0b10000, 100);
+        Check.extraIs(x, 1, 0, 0, 480, 0, 2, 0b10000, 100);
         x.replace(2, 1, 2);
-        extraIs(x, 1, 0, 0, 480, 0, 1, 0b10000, 100);
-        extraIs(x, 2, 0, 13, 0, 0, 1, 0b01001, 0);
+        Check.extraIs(x, 1, 0, 0, 480, 0, 1, 0b10000, 100);
+        Check.extraIs(x, 2, 0, 13, 0, 0, 1, 0b01001, 0);
         x.replace(1, 1, 2);
-        extraIs(x, 1, 0, 0, 480, 0, 0, 0b10000, 100);
-        extraIs(x, 2, 0, 13, 0, 0, 2, 0b01001, 0);
+        Check.extraIs(x, 1, 0, 0, 480, 0, 0, 0b10000, 100);
+        Check.extraIs(x, 2, 0, 13, 0, 0, 2, 0b01001, 0);
         x.nextDay();
-        extraIs(x, 1, 0, 0, 0, 0, 0, 0b10000, 100);
+        Check.extraIs(x, 1, 0, 0, 0, 0, 0, 0b10000, 100);
         x.shoot(0);
-        extraIs(x, 0, 4, 13, 10, 10, 1, 0b01100, 10);
+        Check.extraIs(x, 0, 4, 13, 10, 10, 1, 0b01100, 10);
         Subject ten = Subject.loaded("Fe000" + "s0100010".repeat(10));
         for (int s = 0; s < 10; s++) {
             ten.shoot(s);
-            extraIs(ten, 0, 0, 0, 10 * s + 10, 10 * s + 10, s + 1, 0, 10 * s + 10);
+            Check.extraIs(ten, 0, 0, 0, 10 * s + 10, 10 * s + 10, s + 1, 0, 10 * s + 10);
         }
     }
 
@@ -188,17 +164,17 @@ public final class AnswerTest {
                 + "has been shot, otherwise 0; 6: its crowd, as a set, 0 if it has not been shot; 7: its known faces, "
                 + "as a set; 8: its barred faces, as a set");
         Subject x = Subject.loaded("Fe405e403e100s4293240s4192010s1193060");
-        sceneIs(x, 0, 4, 2, 9, 3, 240, 0, 0, 0, 0);
-        sceneIs(x, 1, 4, 1, 9, 2, 10, 0, 0, 0, 0);
-        sceneIs(x, 2, 1, 1, 9, 3, 60, 0, 0, 0, 0);
+        Check.sceneIs(x, 0, 4, 2, 9, 3, 240, 0, 0, 0, 0);
+        Check.sceneIs(x, 1, 4, 1, 9, 2, 10, 0, 0, 0, 0);
+        Check.sceneIs(x, 2, 1, 1, 9, 3, 60, 0, 0, 0, 0);
         x.shoot(0);
-        sceneIs(x, 0, 4, 2, 9, 3, 240, 1, 0b11, 0, 0);
-        sceneIs(x, 1, 4, 1, 9, 2, 10, 0, 0, 0, 0b101000);
-        sceneIs(x, 2, 1, 1, 9, 3, 60, 0, 0, 0b101000, 0);
+        Check.sceneIs(x, 0, 4, 2, 9, 3, 240, 1, 0b11, 0, 0);
+        Check.sceneIs(x, 1, 4, 1, 9, 2, 10, 0, 0, 0, 0b101000);
+        Check.sceneIs(x, 2, 1, 1, 9, 3, 60, 0, 0, 0b101000, 0);
         x.shoot(2);
-        sceneIs(x, 0, 4, 2, 9, 3, 240, 1, 0b11, 1, 0);
-        sceneIs(x, 1, 4, 1, 9, 2, 10, 0, 0, 0, 0b101001);
-        sceneIs(x, 2, 1, 1, 9, 3, 60, 1, 0b100, 0b101000, 0);
+        Check.sceneIs(x, 0, 4, 2, 9, 3, 240, 1, 0b11, 1, 0);
+        Check.sceneIs(x, 1, 4, 1, 9, 2, 10, 0, 0, 0, 0b101001);
+        Check.sceneIs(x, 2, 1, 1, 9, 3, 60, 1, 0b100, 0b101000, 0);
     }
 
     private static void setting() {
@@ -248,25 +224,25 @@ public final class AnswerTest {
         Check.range("of one that can be shot", x, ARGUMENT, 0, 3, v -> o -> o.would(1, v));
         Check.range("of one that cannot", x, ARGUMENT, 0, 3, v -> o -> o.would(2, v));
         Check.sentence("NONE if it has been shot, or cannot be shot.");
-        wouldBe(x, 0, NONE, NONE, NONE, NONE);
-        wouldBe(x, 2, NONE, NONE, NONE, NONE);
-        wouldBe(x, 3, NONE, NONE, NONE, NONE);
+        Check.wouldBe(x, 0, NONE, NONE, NONE, NONE);
+        Check.wouldBe(x, 2, NONE, NONE, NONE, NONE);
+        Check.wouldBe(x, 3, NONE, NONE, NONE, NONE);
         Check.sentence("0: its crowd, as a set; 1: the wages; 2: what penalties would cost; 3: the breaks");
-        wouldBe(x, 1, 0b111, 3 * 40, 2 * 4 * 5, 0);
+        Check.wouldBe(x, 1, 0b111, 3 * 40, 2 * 4 * 5, 0);
         x.set(1, 99);
-        wouldBe(x, 1, 0b111, 3 * 4 * 99, 40, 0);
+        Check.wouldBe(x, 1, 0b111, 3 * 4 * 99, 40, 0);
         x.set(2, 0);
-        wouldBe(x, 1, 0b111, 3 * 4 * 99, 0, 0);
+        Check.wouldBe(x, 1, 0b111, 3 * 4 * 99, 0, 0);
         x.set(2, 99);
-        wouldBe(x, 1, 0b111, 3 * 4 * 99, 8 * 99, 0);
+        Check.wouldBe(x, 1, 0b111, 3 * 4 * 99, 8 * 99, 0);
         x.extra(1, 3);
-        wouldBe(x, 3, 0b1000, 99, 0, 2);
+        Check.wouldBe(x, 3, 0b1000, 99, 0, 2);
         x.meal();
-        wouldBe(x, 1, 0b111, 3 * 4 * 99, 0, 0);
+        Check.wouldBe(x, 1, 0b111, 3 * 4 * 99, 0, 0);
         x.set(0, 479);
-        wouldBe(x, 1, NONE, NONE, NONE, NONE);
+        Check.wouldBe(x, 1, NONE, NONE, NONE, NONE);
         x.set(0, 480);
-        wouldBe(x, 1, 0b111, 3 * 4 * 99, 0, 0);
+        Check.wouldBe(x, 1, 0b111, 3 * 4 * 99, 0, 0);
     }
 
     private static void wouldIsWhatShootingBrings() {
@@ -280,7 +256,7 @@ public final class AnswerTest {
             Check.same("what penalties cost", x.about(5) - before[1], due[2]);
             Check.same("the breaks", x.about(7) - before[2], due[3]);
         }
-        abouts(x, 4, 5, 5, 0, 80 + 30 + 30 + 60 + 20, 5, 1, 3, 3);
+        Check.abouts(x, 4, 5, 5, 0, 80 + 30 + 30 + 60 + 20, 5, 1, 3, 3);
     }
 
     // ---- why
@@ -525,16 +501,16 @@ public final class AnswerTest {
     private static Subject lateIsLower() {
         // A twin of extra 0 plays elsewhere, so that extra 1 alone can play scenes 1 and 2.
         Subject x = Subject.loaded("Fe000e001e100s1101010s0100240s0100120s0110240s0120110s0130010s0140040g0g1g2mg3g4");
-        extraIs(x, 0, 0, 0, 350, 350);
-        extraIs(x, 1, 0, 1, 360, 0);
+        Check.extraIs(x, 0, 0, 0, 350, 350);
+        Check.extraIs(x, 1, 0, 1, 360, 0);
         return x;
     }
 
     /** Extra 0 had a meal behind 360 minutes; extra 1 has worked 350 without one. Scenes 4 and 5: 10 and 40. */
     private static Subject lateIsHigher() {
         Subject x = Subject.loaded("Fe000s0100240s0110120s0120240s0130110s0140010s0150040g0g1me001g2g3");
-        extraIs(x, 0, 0, 0, 360, 0);
-        extraIs(x, 1, 0, 1, 350, 350);
+        Check.extraIs(x, 0, 0, 0, 360, 0);
+        Check.extraIs(x, 1, 0, 1, 350, 350);
         return x;
     }
 

@@ -39,6 +39,30 @@ final class Check {
         }
     }
 
+    static void abouts(Subject x, int... due) {
+        for (int what = 0; what < due.length; what++) {
+            same("about(" + what + ")", x.about(what), due[what]);
+        }
+    }
+
+    static void extraIs(Subject x, int e, int... due) {
+        for (int what = 0; what < due.length; what++) {
+            same("extraOf(" + e + ", " + what + ")", x.extraOf(e, what), due[what]);
+        }
+    }
+
+    static void sceneIs(Subject x, int s, int... due) {
+        for (int what = 0; what < due.length; what++) {
+            same("sceneOf(" + s + ", " + what + ")", x.sceneOf(s, what), due[what]);
+        }
+    }
+
+    static void wouldBe(Subject x, int s, int... due) {
+        for (int what = 0; what < due.length; what++) {
+            same("would(" + s + ", " + what + ")", x.would(s, what), due[what]);
+        }
+    }
+
     /** The call throws exactly this exception, and nothing that can be told of the subject changes. */
     static void refuses(String name, Subject x, Class<? extends RuntimeException> due, Subject.Step step) {
         same(name, answer(() -> x.ask(step)), due.getSimpleName());
@@ -78,7 +102,8 @@ final class Check {
                 same(name + " takes " + v, answer.endsWith("Exception") ? answer : "an answer", "an answer");
             }
         }
-        for (int v : new int[] {least - 1, most + 1, Integer.MIN_VALUE, Integer.MAX_VALUE, wrapped(least), wrapped(most)}) {
+        for (int v : new int[] {least - 1, most + 1, Integer.MIN_VALUE, Integer.MAX_VALUE, wrapped(least),
+            wrapped(most)}) {
             refuses(name + " with " + v, x, due, call.apply(v));
         }
     }

@@ -27,6 +27,7 @@ public final class ScriptTest {
         hasWorkedGroup();
         penaltiesGroup();
         breaksGroup();
+        failAsTheMethodThrows();
         onACopy();
         Check.finish();
     }
@@ -36,7 +37,7 @@ public final class ScriptTest {
         return Subject.loaded("Fe000e001e000s0200240s0100240s0101010g0g1e002");
     }
 
-    /** 14 extras with one face each; each of ten scenes on its own day; scene k is shot with extra k, but for the last. */
+    /** 14 extras with one face each, ten scenes, each on its own day; scene k but the last is shot with extra k. */
     private static Subject full() {
         Subject x = new Subject();
         for (int e = 0; e < 14; e++) {
@@ -398,6 +399,34 @@ public final class ScriptTest {
                 }
             }
         }
+    }
+
+    private static void failAsTheMethodThrows() {
+        Check.sentence("The commands 1 to 5 fail if the method would throw an exception");
+        Subject x = small();
+        for (int s = 0; s < 10; s++) {
+            int scene = s;
+            boolean shoots = !Check.answer(x.again(), o -> o.shoot(scene)).endsWith("Exception");
+            script(x, shoots ? NONE : 0, 10000 + 1000 * s);
+            for (int a = 0; a < 100; a++) {
+                int out = a;
+                boolean replaces = false;
+                for (int b = 0; b < 5 && a < 5; b++) {
+                    int in = b;
+                    replaces |= !Check.answer(x.again(), o -> o.replace(scene, out, in)).endsWith("Exception");
+                }
+                script(x, replaces ? NONE : 0, 40000 + 1000 * s + 10 * a);
+            }
+        }
+        for (int what = 0; what < 10; what++) {
+            for (int v : new int[] {0, 1, 2, 98, 99, 100, 239, 240, 241, 599, 600, 959, 960, 961, 999}) {
+                int w = what;
+                boolean sets = !Check.answer(x.again(), o -> o.set(w, v)).endsWith("Exception");
+                script(x, sets ? NONE : 0, 50000 + 1000 * what + v);
+            }
+        }
+        script(x, NONE, 20000);
+        script(x, NONE, 30000);
     }
 
     private static void onACopy() {

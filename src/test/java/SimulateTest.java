@@ -411,6 +411,7 @@ public final class SimulateTest {
     }
 
     private static void returned() {
+        // "or 9999 if there are more" is never so: ten scenes bring at most six extras eight penalties each.
         Check.sentence("Returns 10000 * (the scenes shot in the turns) + (the penalties in the turns");
         Subject ten = Subject.loaded("Fe000" + "s0100010".repeat(10));
         for (long seed = 0; seed < 40; seed++) {

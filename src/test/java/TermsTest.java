@@ -45,18 +45,6 @@ public final class TermsTest {
         Check.finish();
     }
 
-    private static void extraIs(Subject x, int e, int... due) {
-        for (int what = 0; what < due.length; what++) {
-            Check.same("extraOf(" + e + ", " + what + ")", x.extraOf(e, what), due[what]);
-        }
-    }
-
-    private static void wouldBe(Subject x, int s, int... due) {
-        for (int what = 0; what < due.length; what++) {
-            Check.same("would(" + s + ", " + what + ")", x.would(s, what), due[what]);
-        }
-    }
-
     private static void facesOfScene(Subject x, int s, int known, int barred) {
         Check.same("known of " + s, x.sceneOf(s, 7), known);
         Check.same("barred of " + s, x.sceneOf(s, 8), barred);
@@ -89,7 +77,7 @@ public final class TermsTest {
             Check.same("extras before", x.about(0), e);
             Check.refuses("the next one", x, INDEX, o -> o.extraOf(next, 0));
             Check.same("its number", x.extra(e % 5, 13 - e), e);
-            extraIs(x, e, e % 5, 13 - e);
+            Check.extraIs(x, e, e % 5, 13 - e);
         }
         Check.same("14", x.about(0), 14);
         Check.refuses("the 15th", x, STATE, o -> o.extra(0, 0));
@@ -114,11 +102,11 @@ public final class TermsTest {
         Subject all = new Subject();
         for (int look = 0; look <= 4; look++) {
             int e = all.extra(look, 13 - look);
-            extraIs(all, e, look, 13 - look);
+            Check.extraIs(all, e, look, 13 - look);
         }
         for (int face = 0; face <= 8; face++) {
             int e = all.extra(4 - face % 5, face);
-            extraIs(all, e, 4 - face % 5, face);
+            Check.extraIs(all, e, 4 - face % 5, face);
         }
         Check.same("14 faces", all.about(8), 14);
         Subject one = new Subject();
@@ -127,31 +115,31 @@ public final class TermsTest {
             Check.same("one face", one.about(8), 1);
         }
         for (int e = 0; e < 14; e++) {
-            extraIs(one, e, e % 5, 13, 0, 0, 0, 16383 - (1 << e), 0);
+            Check.extraIs(one, e, e % 5, 13, 0, 0, 0, 16383 - (1 << e), 0);
         }
     }
 
     private static void firstMinutes() {
         Check.sentence("minutes of work on the day of now, and minutes since the latest meal, both at first 0");
         Subject x = Subject.loaded("Fe000s0100240s0110130s0120011g0g1");
-        extraIs(x, 0, 0, 0, 370, 370, 2, 0, 40 + 30 + 5);
+        Check.extraIs(x, 0, 0, 0, 370, 370, 2, 0, 40 + 30 + 5);
         x.extra(0, 1);
-        extraIs(x, 1, 0, 1, 0, 0, 0, 0, 0);
+        Check.extraIs(x, 1, 0, 1, 0, 0, 0, 0, 0);
         x.shoot(2);
-        extraIs(x, 1, 0, 1, 11, 11, 1, 0, 10);
+        Check.extraIs(x, 1, 0, 1, 11, 11, 1, 0, 10);
         x.undo();
         x.undo();
         Check.same("the number of one who was taken back", x.extra(3, 4), 1);
-        extraIs(x, 1, 3, 4, 0, 0, 0, 0, 0);
+        Check.extraIs(x, 1, 3, 4, 0, 0, 0, 0, 0);
         Subject y = Subject.loaded("Fe000e101s0100240s1100240g0g1");
         y.write("Fe000e101");
         y.load();
-        extraIs(y, 0, 0, 0, 0, 0, 0, 0, 0);
-        extraIs(y, 1, 1, 1, 0, 0, 0, 0, 0);
+        Check.extraIs(y, 0, 0, 0, 0, 0, 0, 0, 0);
+        Check.extraIs(y, 1, 1, 1, 0, 0, 0, 0, 0);
         y.nextDay();
         y.meal();
         y.extra(2, 2);
-        extraIs(y, 2, 2, 2, 0, 0, 0, 0, 0);
+        Check.extraIs(y, 2, 2, 2, 0, 0, 0, 0, 0);
     }
 
     private static void firstPenalties() {
@@ -162,7 +150,7 @@ public final class TermsTest {
         x.scene(1, 1, 2, 0, 240);
         x.scene(1, 1, 3, 0, 121);
         x.shoot(2);
-        wouldBe(x, 3, 0b10, 30, 5);
+        Check.wouldBe(x, 3, 0b10, 30, 5);
         x.shoot(3);
         Check.same("extra 1 has one", x.about(6), 5);
         x.write("Fe000s0100240s0110121g0g1");
@@ -340,7 +328,7 @@ public final class TermsTest {
         Subject x = Subject.loaded("Fe300e101e402e003e204s0100010s1110010s2120010s3130010s4140010");
         int[] crowds = {0b01000, 0b00010, 0b10000, 0b00001, 0b00100};
         for (int s = 0; s < 5; s++) {
-            wouldBe(x, s, crowds[s], 10, 0, 0);
+            Check.wouldBe(x, s, crowds[s], 10, 0, 0);
             for (int e = 0; e < 5; e++) {
                 Check.same("why(" + s + ", " + e + ")", x.why(s, e), (crowds[s] >> e & 1) == 1 ? 0 : 1);
             }
@@ -423,18 +411,18 @@ public final class TermsTest {
         Check.sentence("for each known face, by numbers, that is not barred");
         // Faces 5, 2, 9 have been seen; extra 3, face 0, has not worked.
         Subject x = Subject.loaded("Fe005e002e009s0300010g0e000s0100010s0200010s0300010s0400010s0500010");
-        wouldBe(x, 1, 0b0010, 10, 0, 2);
-        wouldBe(x, 2, 0b0011, 20, 0, 1);
-        wouldBe(x, 3, 0b0111, 30, 0, 0);
-        wouldBe(x, 4, 0b1111, 40, 0, 0);
-        wouldBe(x, 5, NONE, NONE, NONE, NONE);
+        Check.wouldBe(x, 1, 0b0010, 10, 0, 2);
+        Check.wouldBe(x, 2, 0b0011, 20, 0, 1);
+        Check.wouldBe(x, 3, 0b0111, 30, 0, 0);
+        Check.wouldBe(x, 4, 0b1111, 40, 0, 0);
+        Check.wouldBe(x, 5, NONE, NONE, NONE, NONE);
         Check.same("lacks", x.lacks(5), 1);
         Subject high = Subject.loaded("Fe013e012e000s0200010g0s0100010s0200010s0300010");
-        wouldBe(high, 1, 0b010, 10, 0, 1);
-        wouldBe(high, 2, 0b011, 20, 0, 0);
-        wouldBe(high, 3, 0b111, 30, 0, 0);
+        Check.wouldBe(high, 1, 0b010, 10, 0, 1);
+        Check.wouldBe(high, 2, 0b011, 20, 0, 0);
+        Check.wouldBe(high, 3, 0b111, 30, 0, 0);
         Subject low = Subject.loaded("Fe001e000e002s0200010g0s0100010");
-        wouldBe(low, 1, 0b010, 10, 0, 1);
+        Check.wouldBe(low, 1, 0b010, 10, 0, 1);
     }
 
     private static void lowestFreeWithIt() {
@@ -485,7 +473,7 @@ public final class TermsTest {
     private static void notInTheCrowdAlready() {
         Check.sentence("and not in the crowd already");
         Subject x = Subject.loaded("Fe001e001e002s0200010s0300010");
-        wouldBe(x, 0, 0b101, 20, 0, 0);
+        Check.wouldBe(x, 0, 0b101, 20, 0, 0);
         Check.same("the twin", x.why(0, 1), 5);
         Check.same("two faces for three", x.would(1, 0), NONE);
         Check.same("lacks", x.lacks(1), 1);
@@ -541,8 +529,8 @@ public final class TermsTest {
         x.shoot(0);
         x.meal();
         x.shoot(1);
-        extraIs(x, 0, 0, 0, 100, 0);
-        extraIs(x, 1, 0, 1, 50, 50);
+        Check.extraIs(x, 0, 0, 0, 100, 0);
+        Check.extraIs(x, 1, 0, 1, 50, 50);
         Check.same("not since the meal", x.would(2, 0), 0b10);
         x.meal();
         Check.same("nor behind a meal", x.would(2, 0), 0b10);
@@ -573,16 +561,16 @@ public final class TermsTest {
         Check.sentence("each extra in it works its minutes: they are added to those of the day, and to those since "
                 + "the meal");
         Subject x = Subject.loaded("Fe000e001e002s0200010s0110240g0");
-        extraIs(x, 0, 0, 0, 10, 10, 1, 0, 10);
-        extraIs(x, 1, 0, 1, 10, 10, 1, 0, 10);
-        extraIs(x, 2, 0, 2, 0, 0, 0, 0, 0);
+        Check.extraIs(x, 0, 0, 0, 10, 10, 1, 0, 10);
+        Check.extraIs(x, 1, 0, 1, 10, 10, 1, 0, 10);
+        Check.extraIs(x, 2, 0, 2, 0, 0, 0, 0, 0);
         x.meal();
         x.replace(0, 1, 2);
         Check.same("least minutes", x.shoot(1), 0b100);
-        extraIs(x, 0, 0, 0, 10, 0, 1, 0, 10);
-        extraIs(x, 2, 0, 2, 240, 240, 2, 0, 40);
+        Check.extraIs(x, 0, 0, 0, 10, 0, 1, 0, 10);
+        Check.extraIs(x, 2, 0, 2, 240, 240, 2, 0, 40);
         x.nextDay();
-        extraIs(x, 2, 0, 2, 0, 0, 2, 0, 40);
+        Check.extraIs(x, 2, 0, 2, 0, 0, 2, 0, 40);
     }
 
     private static void begunHours() {
@@ -596,7 +584,7 @@ public final class TermsTest {
                 if (wage != 10) {
                     x.set(1, wage);
                 }
-                wouldBe(x, 0, 0b111, 3 * wage * h[1], 0, 0);
+                Check.wouldBe(x, 0, 0b111, 3 * wage * h[1], 0, 0);
             }
             x.shoot(0);
             Check.same(h[0] + " minutes: all wages", x.about(4), 3 * 99 * h[1]);
@@ -693,11 +681,11 @@ public final class TermsTest {
         Subject two = Subject.loaded("Fe000e001s0100240s0110121s0210121");
         two.shoot(0);
         Check.same("extra 1 has worked less", two.shoot(1), 0b10);
-        wouldBe(two, 2, 0b11, 60, 5, 0);
+        Check.wouldBe(two, 2, 0b11, 60, 5, 0);
         two.shoot(2);
         Check.same("counted for each extra by itself", two.about(6), 1);
-        extraIs(two, 0, 0, 0, 361, 361, 2, 0, 40 + 30 + 5);
-        extraIs(two, 1, 0, 1, 242, 242, 2, 0, 30 + 30);
+        Check.extraIs(two, 0, 0, 0, 361, 361, 2, 0, 40 + 30 + 5);
+        Check.extraIs(two, 1, 0, 1, 242, 242, 2, 0, 30 + 30);
     }
 
     private static void costAsSet() {

@@ -340,7 +340,8 @@ public final class TextTest {
         String[] films = {"F", "Fg0", "Fg9", "Fg0g1", "Fs0100010g0", "Fe000s0100010g0", "Fe000s0100010g0g0",
             "Fe000s0100010g0g1", "Fe000s0200010g0", "Fe000s0100010s0101010g0g1", "Fe000s0100240s0110240s0120240g0g1g2",
             "Fe000s0100240s0110240s0120120g0g1g2", "Fe000s0100240s0110240s0120121g0g1g2",
-            "Fe000s0100240s0110240s0120240g0g1ng2", "Fe000s0100240s0110240s0120240g0g1mg2", "Fmnmn", "Fe000g0s0100010g0"};
+            "Fe000s0100240s0110240s0120240g0g1ng2", "Fe000s0100240s0110240s0120240g0g1mg2", "Fmnmn",
+            "Fe000g0s0100010g0"};
         int[] due = {0, 1, 1, 2, 1, 0, 1, 1, 1, 1, 1, 0, 1, 0, 1, 0, 1};
         for (int k = 0; k < films.length; k++) {
             Check.same("left out of " + films[k], with(films[k]).load(), due[k]);
@@ -350,7 +351,8 @@ public final class TextTest {
         Check.same("what is behind is done", x.about(3), 1);
         Check.same("what is behind is done", x.sceneOf(0, 6), 0b11);
         Check.same("and again", x.load(), 2);
-        Check.same("all are left out but the first 14 extras", with("F" + "e000".repeat(14) + "g0".repeat(31)).load(), 31);
+        Subject many = with("F" + "e000".repeat(14) + "g0".repeat(31));
+        Check.same("all are left out but the 14 extras", many.load(), 31);
     }
 
     private static void behindLoad() {
