@@ -21,7 +21,7 @@ public final class ReadmeTest {
     private static final Pattern CALL = Pattern.compile("film\\.(\\w+)\\(.*\\);");
     private static final Pattern ANSWER =
             Pattern.compile("(film\\.\\w+\\(.*\\)); +// (-?\\d+|throws (\\w+))(?:: .*)?");
-    private static final Pattern ROW = Pattern.compile("\\| `(\\w+)\\(([^)]*)\\)` \\|.*\\| ([^|]*)\\|");
+    private static final Pattern ROW = Pattern.compile("\\| `(\\w+)\\(([^)]*)\\)` \\| (.*) \\| ([^|]*)\\|");
     private static final Pattern HEAD = Pattern.compile("public int (\\w+)\\((.*?)\\)(?: throws (.*))?;");
 
     private ReadmeTest() {
@@ -39,28 +39,33 @@ public final class ReadmeTest {
 
     private static void rows(List<String> lines) throws IOException {
         Check.sentence("README.md: What it says must be what the document says.");
+        String document = Files.readString(DOCUMENT, StandardCharsets.UTF_8);
+        Map<String, String> due = documentedCalls(document);
         Map<String, String> told = new TreeMap<>();
         for (String line : lines) {
             Matcher row = ROW.matcher(line);
             if (row.matches()) {
                 String call = row.group(1) + "(" + row.group(2) + ")";
                 Check.same("rows of " + call, told.containsKey(call) ? 2 : 1, 1);
-                told.put(call, row.group(3).strip());
+                Check.same("throws of " + call, row.group(4).strip(), due.getOrDefault(call, "no such call"));
+                told.put(call, row.group(3));
             }
         }
-        Check.same("the calls and what they throw", told.toString(), documentedCalls().toString());
+        Check.same("the calls that have a row", told.keySet().toString(), due.keySet().toString());
+        for (String call : new String[] {"about(what)", "extraOf(e, what)", "sceneOf(s, what)", "why(s, e)"}) {
+            boolean same = document.contains(told.getOrDefault(call, "no row"));
+            Check.same("the document has the numbers of " + call, same ? 1 : 0, 1);
+        }
     }
 
     /** The calls of the document's public face, each with the exceptions that it names, in its order. */
-    private static Map<String, String> documentedCalls() throws IOException {
+    private static Map<String, String> documentedCalls(String document) {
         Map<String, String> calls = new TreeMap<>();
-        for (String line : Files.readAllLines(DOCUMENT, StandardCharsets.UTF_8)) {
-            Matcher head = HEAD.matcher(line.strip());
-            if (head.matches()) {
-                String names = head.group(2).replaceAll("(int|long) ", "");
-                String thrown = head.group(3) == null ? "" : head.group(3).replace("Exception", "");
-                calls.put(head.group(1) + "(" + names + ")", thrown);
-            }
+        Matcher head = HEAD.matcher(document);
+        while (head.find()) {
+            String names = head.group(2).replaceAll("(int|long) ", "");
+            String thrown = head.group(3) == null ? "" : head.group(3).replace("Exception", "");
+            calls.put(head.group(1) + "(" + names + ")", thrown);
         }
         return calls;
     }
